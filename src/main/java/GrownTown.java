@@ -140,7 +140,8 @@ public final class GrownTown {
     public int would(int s) {
         if (!town.seekers.has(s)) return BAD;
         if (!town.seekers.waits(s, town.year)) return STATE;
-        town.settleBids();
+        town.showPlots();
+        town.seekers.settle(town.year, town.board.plots);
         return town.seekers.heldBy(s);
     }
 
@@ -467,15 +468,15 @@ public final class GrownTown {
         }
 
         int groundOf(int p) {
-            return has(p) ? grounds[p] : WATER;
+            return p >= 0 && p < plots ? grounds[p] : WATER;
         }
 
         int heightOf(int p) {
-            return has(p) ? heights[p] : 0;
+            return p >= 0 && p < plots ? heights[p] : 0;
         }
 
         int useOf(int p) {
-            return has(p) ? uses[p] : 0;
+            return p >= 0 && p < plots ? uses[p] : 0;
         }
 
         boolean isFree(int p) {
@@ -791,15 +792,12 @@ public final class GrownTown {
             return next >= 0 && next < tokens && next <= MOST ? kinds[next] : END;
         }
 
+        /** The next token can't be taken: why, if it is a token at all. */
         private boolean refuse(int why) {
-            fault = why;
-            faultPlace = next >= 0 && next < tokens && next <= MOST ? starts[next] : length;
+            boolean inside = next >= 0 && next < tokens && next <= MOST;
+            fault = inside && kinds[next] == WRONG ? NO_TOKEN : why;
+            faultPlace = inside ? starts[next] : length;
             return false;
-        }
-
-        /** The next token can't stand where it is: which fault that is. */
-        private boolean misplaced() {
-            return refuse(nextKind() == WRONG ? NO_TOKEN : MISPLACED);
         }
 
         private boolean isNext(int kind, int low, int high) {
@@ -814,20 +812,20 @@ public final class GrownTown {
         }
 
         private boolean takeWord(int low, int high) {
-            if (!isNext(NAME, low, high)) return misplaced();
+            if (!isNext(NAME, low, high)) return refuse(MISPLACED);
             take();
             return true;
         }
 
         private boolean takeNumber(int low, int high) {
-            if (nextKind() != NUMBER) return misplaced();
+            if (nextKind() != NUMBER) return refuse(MISPLACED);
             if (!isNext(NUMBER, low, high)) return refuse(OUT_OF_BOUNDS);
             take();
             return true;
         }
 
         private boolean readLaw(Laws laws) {
-            if (!isNext(NAME, Laws.ZONE, FROM)) return misplaced();
+            if (!isNext(NAME, Laws.ZONE, FROM)) return refuse(MISPLACED);
             if (laws.areFull()) return refuse(TOO_MANY);
             int from = 0;
             if (isNext(NAME, FROM, FROM)) {
@@ -837,14 +835,14 @@ public final class GrownTown {
             }
             if (!takeWord(Laws.ZONE, Laws.LEAVE)) return false;
             int act = taken;
-            if (!isNext(NAME, HOME, SHOP)) return misplaced();
+            if (!isNext(NAME, HOME, SHOP)) return refuse(MISPLACED);
             boolean once = act == Laws.TAX || act == Laws.CAP || act == Laws.LEAVE;
             if (once && laws.tell(act, nextUse(), from)) return refuse(TOLD_TWICE);
             int k = laws.add(act, from);
             laws.put(k, Laws.USE, nextUse());
             take();
             if (!readNumbers(act, laws, k)) return false;
-            if (nextKind() != SEMICOLON) return misplaced();
+            if (nextKind() != SEMICOLON) return refuse(MISPLACED);
             take();
             return true;
         }
@@ -853,27 +851,25 @@ public final class GrownTown {
             return next >= 0 && next < tokens && next <= MOST ? values[next] - HOME + 1 : 0;
         }
 
+        /** Reads what stands behind the use. */
         private boolean readNumbers(int act, Laws laws, int k) {
             switch (act) {
-                case Laws.ZONE: return readZone(laws, k);
-                case Laws.WISH: return readWish(laws, k);
-                case Laws.TAX: return readNumber(laws, k, Laws.NUMBER, 0, 100);
-                case Laws.CAP: return readNumber(laws, k, Laws.NUMBER, 0, 64);
-                default: return readNumber(laws, k, Laws.NUMBER, 0, 999);
+                case Laws.ZONE:
+                    return readNumber(laws, k, Laws.LEFT, 0, SIDE - 1)
+                        && readNumber(laws, k, Laws.TOP, 0, SIDE - 1)
+                        && readNumber(laws, k, Laws.RIGHT, laws.at(k, Laws.LEFT), SIDE - 1)
+                        && readNumber(laws, k, Laws.BOTTOM, laws.at(k, Laws.TOP), SIDE - 1);
+                case Laws.WISH:
+                    if (!takeWord(HOME, ROAD_WORD)) return false;
+                    laws.put(k, Laws.THING, taken - HOME);
+                    return readNumber(laws, k, Laws.FAR, 1, FARTHEST) && readNumber(laws, k, Laws.POINTS, -99, 99);
+                case Laws.TAX:
+                    return readNumber(laws, k, Laws.NUMBER, 0, 100);
+                case Laws.CAP:
+                    return readNumber(laws, k, Laws.NUMBER, 0, 64);
+                default:
+                    return readNumber(laws, k, Laws.NUMBER, 0, 999);
             }
-        }
-
-        private boolean readZone(Laws laws, int k) {
-            return readNumber(laws, k, Laws.LEFT, 0, SIDE - 1)
-                && readNumber(laws, k, Laws.TOP, 0, SIDE - 1)
-                && readNumber(laws, k, Laws.RIGHT, laws.at(k, Laws.LEFT), SIDE - 1)
-                && readNumber(laws, k, Laws.BOTTOM, laws.at(k, Laws.TOP), SIDE - 1);
-        }
-
-        private boolean readWish(Laws laws, int k) {
-            if (!takeWord(HOME, ROAD_WORD)) return false;
-            laws.put(k, Laws.THING, taken - HOME);
-            return readNumber(laws, k, Laws.FAR, 1, FARTHEST) && readNumber(laws, k, Laws.POINTS, -99, 99);
         }
 
         private boolean readNumber(Laws laws, int k, int place, int low, int high) {
@@ -1013,7 +1009,7 @@ public final class GrownTown {
 
         private boolean ask(int s, int ofPlots) {
             int p = bestPlot(s, ofPlots);
-            if (!has(s) || !within(p, 0, PLOTS - 1)) return false;
+            if (!has(s) || p < 0 || p >= PLOTS) return false;
             bid[s] = Math.min(valueOf(s, p), purse[s]);
             int other = holds[p];
             if (has(other) && !outbids(s, other)) {
@@ -1039,12 +1035,12 @@ public final class GrownTown {
 
         /** The plot that a seeker asks next, or NONE. */
         private int bestPlot(int s, int ofPlots) {
-            if (!has(s)) return NONE;
+            if (s < 0 || s >= MOST) return NONE;
             long asks = open[use[s]] & ~letGo[s];
             int best = NONE;
             int greatest = 0;
             for (int p = 0; p < ofPlots && p < PLOTS; p++) {
-                if ((asks & bit(p)) == 0) continue;
+                if ((asks >> p & 1) == 0) continue;
                 int value = valueOf(s, p);
                 if (value > greatest) {
                     best = p;
@@ -1118,20 +1114,21 @@ public final class GrownTown {
             return cap < 0 || board.countUse(u) < cap;
         }
 
-        void settleBids() {
+        /** Shows the waiting seekers the plots, so that their bids can settle. */
+        void showPlots() {
             for (int u = 1; u <= USES; u++) {
                 if (!seekers.want(u, year)) continue;
                 for (int p = 0; p < board.plots; p++) {
                     seekers.see(u, p, worthOf(p, u), board.heightOf(p), mayBecome(p, u));
                 }
             }
-            seekers.settle(year, board.plots);
         }
 
         /** A year goes: how many became owners. */
         int grow() {
             if (!within(year, 0, YEARS - 1)) return FULL;
-            settleBids();
+            showPlots();
+            seekers.settle(year, board.plots);
             int became = settleIn();
             int taxes = takeTaxes();
             int left = sendAway();
@@ -1371,15 +1368,11 @@ public final class GrownTown {
             for (int p = 0; p < PLOTS; p++) {
                 for (int side = 0; side < SIDES; side++) {
                     int q = board.beside(p, side);
-                    boolean gone = q >= 0 && !isWater(p) && !isWater(q);
+                    boolean gone = q >= 0 && board.groundOf(p) != WATER && board.groundOf(q) != WATER;
                     ends[p * SIDES + side] = gone ? q : -1;
                     bare[p * SIDES + side] = gone ? bareStep(p, q) : UNREACHED;
                 }
             }
-        }
-
-        private boolean isWater(int p) {
-            return board.groundOf(p) == WATER;
         }
 
         private int bareStep(int p, int q) {
@@ -1431,7 +1424,7 @@ public final class GrownTown {
             layOut();
             Arrays.fill(times, UNREACHED);
             Arrays.fill(done, 0);
-            if (!within(to, 0, PLOTS - 1) || isWater(to)) return;
+            if (!within(to, 0, PLOTS - 1) || board.groundOf(to) == WATER) return;
             times[to] = 0;
             for (int i = 0; i < PLACES; i++) {
                 int place = nearest();
@@ -1481,7 +1474,7 @@ public final class GrownTown {
             int p = stopPlot(a);
             int back = nextStop(a, -1);
             int ahead = nextStop(a, 1);
-            if (!isWater(p)) shorten(p, time + COME_ON);
+            if (board.groundOf(p) != WATER) shorten(p, time + COME_ON);
             if (back >= 0) shorten(PLOTS + back, time + RIDE);
             if (ahead >= 0) shorten(PLOTS + ahead, time + RIDE);
         }
@@ -1523,7 +1516,7 @@ public final class GrownTown {
 
         /** To go off and to come on adds no plot: who may be at one of these places may be at the other. */
         private void changeAt(int p) {
-            if (onFoot || isWater(p)) return;
+            if (onFoot || board.groundOf(p) == WATER) return;
             for (int a = 0; a < ABOARD; a++) {
                 if (isAboard(a) && timeFrom(PLOTS + a) == timeFrom(p)) afoot = true;
             }
@@ -1645,14 +1638,14 @@ public final class GrownTown {
                 ways.measure(to[t], true);
                 out[t] = ways.reaches(from[t]) ? 0 : 1;
                 alone[t] = ways.timeFrom(from[t]);
-                takeWay(t);
+                ways.trace(from[t]);
+                keepTraced(t);
             }
             for (int t = 0; t < told; t++) addCrowd(t, 1);
         }
 
-        private void takeWay(int t) {
+        private void keepTraced(int t) {
             if (!has(t)) return;
-            ways.trace(from[t]);
             lengths[t] = Math.min(ways.length, PLOTS);
             for (int i = 0; i < lengths[t]; i++) plots[t * PLOTS + i] = ways.plotAt(i);
         }
@@ -1676,7 +1669,8 @@ public final class GrownTown {
                 ways.measure(to[t], true);
                 takes[t] = timeOfWay(t);
                 if (ways.timeFrom(from[t]) < takes[t]) {
-                    takeWay(t);
+                    ways.trace(from[t]);
+                    keepTraced(t);
                     changed = true;
                 }
                 addCrowd(t, 1);

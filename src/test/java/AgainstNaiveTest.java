@@ -70,6 +70,50 @@ public final class AgainstNaiveTest {
         return text.toString();
     }
 
+    /** Laws without a fault that all stand on the tape, most of them from the first years on. */
+    private String goodText() {
+        StringBuilder text = new StringBuilder();
+        List<String> told = new ArrayList<>();
+        for (int i = 0; i < 12 && text.length() < 280; i++) {
+            int from = random.nextInt(3) == 0 ? upTo(6) : 0;
+            String use = use();
+            String act = WORDS[5 + upTo(4)];
+            String once = act + use + from;
+            if (!act.equals("zone") && !act.equals("wish") && told.contains(once)) continue;
+            told.add(once);
+            if (from > 0) text.append("from ").append(from);
+            text.append(act).append(' ').append(use).append(' ');
+            switch (act) {
+                case "zone": text.append(upTo(3)).append(' ').append(upTo(3)).append(' ').append(4 + upTo(3)).append(' ').append(4 + upTo(3)); break;
+                case "wish": text.append(WORDS[upTo(4)]).append(1 + upTo(4)).append(random.nextInt(3) == 0 ? "-" : " ").append(upTo(12)); break;
+                case "tax": text.append(upTo(100)); break;
+                case "cap": text.append(1 + upTo(6)); break;
+                default: text.append(upTo(25)); break;
+            }
+            text.append(';');
+        }
+        return text.toString();
+    }
+
+    /** A town of several years with its laws and seekers, looked at anew without each law. */
+    private int growTown() {
+        int calls = tell(goodText());
+        for (int year = 0; year < 5; year++) {
+            for (int i = upTo(year == 0 ? 8 : 3); i >= 0; i--, calls++) {
+                seeker(1 + upTo(2));
+                if (random.nextInt(3) == 0) sameSmall(upTo(2));
+            }
+            for (int s = upTo(2); s < naive.seekers.size(); s += 3, calls++) same("would " + s, real.would(s), naive.would(s));
+            same("year", real.year(), naive.year());
+            if (random.nextInt(5) == 0) calls += tell(goodText());
+        }
+        for (int k = 0; k < 12; k++, calls += 2) {
+            same("without " + k, real.without(k), naive.without(k));
+            same("withoutMore " + k, real.withoutMore(k), naive.withoutMore(k));
+        }
+        return calls + 20;
+    }
+
     private void same(String call, int got, int due) {
         log.add(call + " = " + due);
         if (got == due) return;
@@ -197,6 +241,7 @@ public final class AgainstNaiveTest {
         same("board", real.board(w, h), naive.board(w, h));
         if (style == 3 && random.nextBoolean()) flood();
         int calls = 1;
+        if (style == 1 || style == 4 && random.nextBoolean()) calls += growTown();
         while (calls < CALLS - 200) {
             int kind = random.nextInt(100);
             if (kind < 3) calls += tell(text());
