@@ -45,15 +45,18 @@ public final class LawsTest {
         Check.laws(x, "zone home0 0-0 007;");
         Check.laws(x, "  from 3cap shop64;leave work 999 ; tax home100;wish work road 1-99;   ");
         due("four laws", x.count(2), 4);
-        due("acts", x.count(6), 3);
+        Check.laws(x, "zone work 7 7 7 7;cap shop 0;tax work 0;wish home water 1 99;leave shop 0;");
+        Check.laws(x, "from 3cap shop64;leave work 999 ; tax home100;wish work road 1-99;   ");
+        due("acts", x.count(6), 5);
         faultsOfTokens(x);
         faultsOfPlaces(x);
         faultsOfBounds(x);
-        due("faults are no acts", x.count(6), 3);
+        due("faults are no acts", x.count(6), 5);
         due("the laws that were told stay", x.law(1, 0), 4);
         faultsOfMany(new GrownTown());
         faultsOfTwice(new GrownTown());
         full();
+        longest();
     }
 
     private static void faultsOfTokens(GrownTown x) {
@@ -138,6 +141,20 @@ public final class LawsTest {
         Check.faulty(x, "from 7 leave shop 3;tax home 1; from 7leave shop 3;", 5, 44);
         Check.laws(x, "tax home 3;tax work 3;cap home 3;leave home 3;from 1 tax home 3;");
         Check.laws(x, "wish home shop 1 1;wish home shop 1 1;zone home 1 1 1 1;zone home 1 1 1 1;");
+    }
+
+    /** A whole tape of one sign, and of tokens of one byte. */
+    private static void longest() {
+        String[] signs = {";", " ", "1", "a", "-", "?"};
+        int[] faults = {2, 0, 1, 1, 1, 1};
+        for (int i = 0; i < signs.length; i++) {
+            GrownTown x = new GrownTown();
+            Check.tape(x, signs[i].repeat(320));
+            due("320 times " + signs[i], x.laws(), i == 1 ? 0 : -10);
+            due("its fault", x.fault(), faults[i]);
+        }
+        GrownTown x = new GrownTown();
+        Check.faulty(x, "tax home 1" + " ".repeat(310), 2, 320);
     }
 
     private static void full() {

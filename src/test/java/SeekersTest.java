@@ -140,6 +140,12 @@ public final class SeekersTest {
         x.year();
         due("below 0: none, and shops without owners pay none", x.went(2, 2), 0);
         due("the chest", x.count(5), 1);
+        GrownTown rich = new GrownTown();
+        Check.laws(rich, "wish home water 1 99;tax home 1;");
+        rich.ground(1, 1);
+        rich.seeker(1, 9, 0, 0);
+        rich.year();
+        due("a hundredth of 109", rich.went(0, 2), 1);
         GrownTown y = new GrownTown();
         Check.laws(y, "leave home 10;leave work 11;");
         y.seeker(1, 9, 0, 0);

@@ -203,6 +203,27 @@ public final class WaysTest {
         due("trips(2, 0)", y.trips(2, 0), Check.STATE);
     }
 
+    /** A town in which the trips go otherwise in eight rounds, one after another. */
+    private static void manyRounds() {
+        int[] grounds = {1, 0, 2, 0, 0, 2, 0, 2, 2, 2, 0, 0, 1, 1, 0, 0, 2, 2, 1, 0, 2, 0, 0, 2, 1, 0, 2, 2, 1, 0, 0, 1, 2, 0, 1, 0};
+        int[] heights = {0, 0, 0, 0, 0, 0, 2, 0, 0, 3, 8, 8, 0, 0, 0, 0, 0, 0, 7, 0, 0, 0, 7, 0, 0, 0, 0, 0, 0, 0, 0, 3, 0, 0, 0, 4};
+        int[] ends = {25, 5, 1, 29, 2, 35, 28, 0, 32, 35, 4, 35, 16, 4, 20, 35};
+        GrownTown x = new GrownTown();
+        NaiveTown naive = new NaiveTown();
+        x.board(6, 6);
+        naive.board(6, 6);
+        for (int p = 0; p < 36; p++) {
+            if (grounds[p] != 0) due("ground", x.ground(p, grounds[p]), naive.ground(p, grounds[p]));
+            if (heights[p] != 0) due("height", x.height(p, heights[p]), naive.height(p, heights[p]));
+        }
+        for (int i = 0; i < 16; i += 2) due("trip", x.trip(ends[i], ends[i + 1]), naive.trip(ends[i], ends[i + 1]));
+        due("nine rounds", x.balance(), 9);
+        due("the naive town's", naive.balance(), 9);
+        for (int t = 0; t < naive.trips.size(); t++) {
+            for (int what = 0; what < 30; what++) due("trips(" + t + ", " + what + ")", x.trips(t, what), naive.trips(t, what));
+        }
+    }
+
     private static void promise29() {
         GrownTown x = new GrownTown();
         x.board(3, 2);
@@ -235,6 +256,7 @@ public final class WaysTest {
         promise26();
         promise27();
         promise28();
+        manyRounds();
         promise29();
         Check.finish("WaysTest");
     }
