@@ -913,7 +913,7 @@ public final class GrownTown {
         }
 
         int add(int u, int itsPurse, int itsTaste, int year) {
-            if (areFull()) return FULL;
+            if (!within(come, 0, MOST - 1)) return FULL;
             int s = come;
             come++;
             use[s] = u;
@@ -1026,16 +1026,18 @@ public final class GrownTown {
         }
 
         private boolean outbids(int s, int other) {
+            if (!has(s) || !has(other)) return false;
             return bid[s] > bid[other] || bid[s] == bid[other] && s < other;
         }
 
         private int valueOf(int s, int p) {
+            if (!has(s) || !within(p, 0, PLOTS - 1) || !within(use[s], 1, USES)) return 0;
             return worths[use[s] * PLOTS + p] + taste[s] * heights[p];
         }
 
         /** The plot that a seeker asks next, or NONE. */
         private int bestPlot(int s, int ofPlots) {
-            if (s < 0 || s >= MOST) return NONE;
+            if (!has(s) || !within(use[s], 1, USES)) return NONE;
             long asks = open[use[s]] & ~letGo[s];
             int best = NONE;
             int greatest = 0;

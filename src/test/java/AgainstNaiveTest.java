@@ -2,9 +2,9 @@ import java.util.ArrayList;
 import java.util.List;
 import java.util.Random;
 
-/** Many runs of calls, made by a fixed seed, on the program and on the naive town: no answer may differ, none throw. */
+/** Many runs of at most 512 calls, made by a fixed seed, on the program and on the naive town: no answer may differ, none throw. */
 public final class AgainstNaiveTest {
-    private static final int RUNS = 1500, CALLS = 512;
+    private static final int RUNS = 1500, CALLS = 512, MOST_AT_ONCE = 70, COUNTS = 27;
     private static final String[] WORDS = {"home", "work", "shop", "water", "road", "zone", "wish", "tax", "cap", "leave",
         "from", ";", "-", "7", "-3", "100", "x", "A", "0000", "99", " "};
     private final Random random;
@@ -96,22 +96,21 @@ public final class AgainstNaiveTest {
     }
 
     /** A town of several years with its laws and seekers, looked at anew without each law. */
-    private int growTown() {
-        int calls = tell(goodText());
+    private void growTown() {
+        tell(goodText());
         for (int year = 0; year < 5; year++) {
-            for (int i = upTo(year == 0 ? 8 : 3); i >= 0; i--, calls++) {
+            for (int i = upTo(year == 0 ? 8 : 3); i >= 0; i--) {
                 seeker(1 + upTo(2));
                 if (random.nextInt(3) == 0) sameSmall(upTo(2));
             }
-            for (int s = upTo(2); s < naive.seekers.size(); s += 3, calls++) same("would " + s, real.would(s), naive.would(s));
+            for (int s = upTo(2); s < naive.seekers.size(); s += 3) same("would " + s, real.would(s), naive.would(s));
             same("year", real.year(), naive.year());
-            if (random.nextInt(5) == 0) calls += tell(goodText());
+            if (random.nextInt(5) == 0) tell(goodText());
         }
-        for (int k = 0; k < 12; k++, calls += 2) {
+        for (int k = 0; k < 12; k++) {
             same("without " + k, real.without(k), naive.without(k));
             same("withoutMore " + k, real.withoutMore(k), naive.withoutMore(k));
         }
-        return calls + 20;
     }
 
     private void same(String call, int got, int due) {
@@ -121,34 +120,29 @@ public final class AgainstNaiveTest {
         throw new IllegalStateException(call + " answered " + got + ", due is " + due);
     }
 
-    private int tell(String text) {
-        int calls = 0;
+    private void tell(String text) {
         for (int i = 0; i < text.length(); i += 8) {
             long v = 0;
             for (int j = i; j < i + 8; j++) v = v << 8 | (j < text.length() ? text.charAt(j) : random.nextInt(256));
             same("feed " + v, real.feed(v), naive.feed(v));
-            calls++;
         }
         same("end", real.end(text.length()), naive.end(text.length()));
         same("laws '" + text + "'", real.laws(), naive.laws());
         same("fault", real.fault(), naive.fault);
-        return calls + 3;
     }
 
-    private int fillSheet() {
+    private void fillSheet() {
         int k = in(0, 3);
         int lane = in(0, 2);
         int n = random.nextBoolean() ? 2 * naive.w * naive.h + upTo(2) : in(0, 128);
         same("sheet " + k + " " + lane + " " + n, real.sheet(k, lane, n), naive.sheet(k, lane, n));
-        int calls = 1;
-        for (int i = 0; i < Math.min(n, 12); i++, calls++) {
+        for (int i = 0; i < Math.min(n, 12); i++) {
             int cell = random.nextInt(Math.max(1, n));
             int v = in(0, random.nextInt(3) == 0 ? 9 : 1) + (random.nextInt(9) == 0 ? 65536 : 0);
             same("lay " + k + " " + cell + " " + v, real.lay(k, cell, v), naive.lay(k, cell, v));
         }
         int f = random.nextInt(5) == 0 ? in(-2, 20) : 0;
         same("draw " + k + " " + lane + " " + f, real.draw(k, lane, f), naive.draw(k, lane, f));
-        return calls + 1;
     }
 
     private void sameSmall(int k) {
@@ -199,7 +193,7 @@ public final class AgainstNaiveTest {
     }
 
     private void wholeWay(int p, int q) {
-        for (int i = -1, got = 0; i < 100 && (i <= 0 || got >= 0); i++) {
+        for (int i = -1, got = 0; i < 65 && (i <= 0 || got >= 0); i++) {
             got = real.way(p, q, i);
             same("way " + p + " " + q + " " + i, got, naive.way(p, q, i));
         }
@@ -240,20 +234,19 @@ public final class AgainstNaiveTest {
         int h = 1 + upTo(7);
         same("board", real.board(w, h), naive.board(w, h));
         if (style == 3 && random.nextBoolean()) flood();
-        int calls = 1;
-        if (style == 1 || style == 4 && random.nextBoolean()) calls += growTown();
-        while (calls < CALLS - 200) {
+        if (style == 1 || style == 4 && random.nextBoolean()) growTown();
+        while (log.size() < CALLS - MOST_AT_ONCE - COUNTS) {
             int kind = random.nextInt(100);
-            if (kind < 3) calls += tell(text());
-            else if (kind < 4) calls += fillSheet();
+            if (kind < 3) tell(text());
+            else if (kind < 4) fillSheet();
             else if (random.nextInt(700) == 0) same("board", real.board(1 + w / 2, h), naive.board(1 + w / 2, h));
             else if (kind < 40 && style != 0) sameSmall(part[random.nextInt(part.length)]);
             else if (style == 0 || kind < 50) sameSmall(random.nextInt(33));
             else if (style == 1 && kind < 60) seeker(1 + upTo(2));
             else sameSmall(part[random.nextInt(part.length)]);
-            calls++;
         }
-        for (int what = -1; what < 26; what++) same("count " + what, real.count(what), naive.count(what));
+        for (int what = -1; what < COUNTS - 1; what++) same("count " + what, real.count(what), naive.count(what));
+        if (log.size() > CALLS) throw new IllegalStateException(log.size() + " calls: nothing is promised of the last ones");
     }
 
     /** Many plots become roads or water in a few calls, so that trips have narrow ways. */

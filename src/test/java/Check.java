@@ -1,3 +1,6 @@
+import java.util.function.Supplier;
+import java.util.function.ToIntFunction;
+
 /** What the tests of the promises share: calls are compared with the answers that are due. */
 final class Check {
     static final int BAD = -1, STATE = -2, FULL = -3, NONE = -4, SPENT = -6;
@@ -48,6 +51,16 @@ final class Check {
     static void fillActs(GrownTown x) {
         for (int i = x.count(6); i < 60; i++) due("height(0, 0)", x.height(0, 0) >= 0 ? 1 : 0, 1);
         due("count(6)", x.count(6), 60);
+    }
+
+    /** A call that is refused: all that can be seen of the town then is as if the call had not been made. */
+    static void refused(String call, Supplier<GrownTown> begun, ToIntFunction<GrownTown> does, int want) {
+        for (int view = 0; view < Towns.VIEWS; view++) {
+            GrownTown town = begun.get();
+            due(call, does.applyAsInt(town), want);
+            boolean same = Towns.view(view, town).equals(Towns.view(view, begun.get()));
+            due(call + " changes nothing, as view " + view + " shows", same ? 1 : 0, 1);
+        }
     }
 
     static void finish(String name) {

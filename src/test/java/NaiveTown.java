@@ -269,6 +269,10 @@ final class NaiveTown {
         return told;
     }
 
+    int fault() {
+        return fault;
+    }
+
     boolean holds(Law law) {
         if (law.from > now()) return false;
         if (law.act.equals("zone") || law.act.equals("wish")) return true;
