@@ -35,6 +35,7 @@ final class Check {
         long told = text.chars().filter(c -> c == ';').count();
         due("laws() of " + text, x.laws(), told);
         due("fault() of " + text, x.fault(), 0);
+        due("the tape behind " + text, x.count(11), 0);
     }
 
     /** Tells laws that have a fault. */

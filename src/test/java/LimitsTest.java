@@ -55,9 +55,10 @@ public final class LimitsTest {
     /** What comes when all has begun anew has nothing of what was there. */
     private static void goOn(GrownTown x) {
         x.seeker(1, 9, 1, 1);
-        x.seeker(2, 9, 1, 0);
-        Towns.feed(x, "cap home 1;tax work 50;wish work home 2 5;");
+        Towns.feed(x, "cap home 1;tax work 50;wish work home 2 5;zone shop 0 0 0 0;");
         x.laws();
+        x.seeker(2, 9, 1, 0);
+        x.seeker(3, 9, 1, 0);
         x.year();
         x.year();
         x.year();
@@ -100,6 +101,36 @@ public final class LimitsTest {
         due("its bytes stay", y.laws(), 2);
         due("the sheet stays", y.count(12), 30);
         due("its cells stay", y.draw(0, 0, 0), 12);
+    }
+
+    /** Seekers of a lesser board ask none of the plots that a greater one had. */
+    private static void lesserBoard() {
+        GrownTown x = new GrownTown();
+        x.board(8, 8);
+        for (int p = 0; p < 10; p++) x.height(p + 50, 9);
+        for (int u = 1; u < 4; u++) x.seeker(u, 9, 9, 0);
+        due("three owners", x.year(), 3);
+        x.board(2, 1);
+        for (int s = 0; s < 4; s++) x.seeker(1 + s % 3, 9, 9, 0);
+        due("would of the third", x.would(2), Check.NONE);
+        due("two owners", x.year(), 2);
+        due("the third", x.told(2, 4), Check.NONE);
+        due("the second", x.told(1, 4), 1);
+    }
+
+    /** A row anew is all 0. */
+    private static void rowsAnew() {
+        for (int lane = 0; lane < 3; lane++) {
+            GrownTown x = new GrownTown();
+            x.board(1, 1);
+            for (int k = 0; k < 4; k++) {
+                x.sheet(k, lane, 128);
+                for (int i = 0; i < 4; i++) x.lay(k, i * 42, 1);
+                due("sheet", x.sheet(k, 2 - lane, 128), 1);
+                for (int i = 0; i < 4; i++) due("draw of a row anew", x.draw(k, 2 - lane, Math.min(i * 42, 126)), 0);
+                due("draw of the other lane", x.draw(k, lane, 0), lane == 1 ? 0 : -13);
+            }
+        }
     }
 
     /** Boards of all sizes from 1 to 8: how many plots, the last one and the first that is not, and where they lie. */
@@ -223,6 +254,7 @@ public final class LimitsTest {
         due("count(3)", x.count(3), 20);
         due("told(19, 1)", x.told(19, 1), 20);
         due("told(20, 1)", x.told(20, 1), -100);
+        due("acts", x.count(6), 20);
         due("16 plots are settled", x.year(), 16);
         due("the least purses have none", x.told(0, 4) + x.told(3, 4), -8);
     }
@@ -243,6 +275,16 @@ public final class LimitsTest {
         due("count(8)", x.count(8), 8);
         due("the last trip", x.trips(7, 10), 7);
         due("none behind", x.trips(8, 10), Check.BAD);
+        GrownTown y = new GrownTown();
+        y.board(8, 8);
+        for (int t = 0; t < 4; t++) {
+            y.tram(16 * t, 16 * t + 5);
+            for (int i = 2; i < 6; i++) y.stop(t, 16 * t + (i % 2 == 0 ? 2 : 7) + i / 4);
+        }
+        due("from end to end", y.time(0, 8), 3);
+        due("along a tram", y.time(16, 16 + 7), 2 + 3);
+        due("no tram goes on as another one", y.time(8, 16), 3);
+        due("from one to the beginning of the next on foot", y.time(7, 16), 2 + 2 + 3);
     }
 
     private static void plansAndNotes() {
@@ -318,6 +360,8 @@ public final class LimitsTest {
     public static void main(String[] args) {
         atFirst();
         boardBegins();
+        lesserBoard();
+        rowsAnew();
         sizes();
         tape();
         acts();

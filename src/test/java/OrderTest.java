@@ -238,6 +238,43 @@ public final class OrderTest {
         Check.due("none more than 60", drawn(60, 0, 0, 0, 0, 0, 0, 0, 0).draw(0, 2, 0), 0);
     }
 
+    /** A rich town in which one thing alone is full: what is refused then changes nothing. */
+    private static void full(String call, ToIntFunction<GrownTown> fills, int times, ToIntFunction<GrownTown> does) {
+        Check.refused("rich town, one thing full: " + call, () -> {
+            GrownTown x = Towns.rich();
+            for (int i = 0; i < times; i++) Check.due("before " + call, fills.applyAsInt(x) >= 0 ? 1 : 0, 1);
+            return x;
+        }, does, FULL);
+    }
+
+    private static GrownTown withStops(int t) {
+        GrownTown x = Towns.rich();
+        int[] stops = {8, 9, 10, 4};
+        for (int i = 0; i < 3 + t; i++) Check.due("stop", x.stop(t, stops[i]), 4 - t + i);
+        return x;
+    }
+
+    private static void ofOneThingFull() {
+        full("seeker", x -> x.seeker(1, 5, 1, 3), 14, x -> x.seeker(2, 50, 3, 2));
+        full("tram", x -> x.tram(0, 9), 2, x -> x.tram(4, 11));
+        for (int t = 0; t < 2; t++) {
+            int tram = t;
+            Check.refused("rich town, one tram full: stop", () -> withStops(tram), x -> x.stop(tram, 11), FULL);
+        }
+        full("trip", x -> x.trip(9, 2), 5, x -> x.trip(1, 2));
+        full("plan", x -> x.plan(0, 3, 1), 3, x -> x.plan(4, 1, 2));
+        full("note", x -> x.note(0, 1, 2), 14, x -> x.note(0, 2, 3));
+        full("year", GrownTown::year, 22, GrownTown::year);
+        full("feed", x -> x.feed(0x2020202020202020L), 38, x -> x.feed(0x3b3b3b3b3b3b3b3bL));
+        full("ground", x -> x.height(1, 3), 46, x -> x.ground(0, 2));
+        full("height", x -> x.height(1, 3), 46, x -> x.height(0, 2));
+        full("use", x -> x.height(1, 3), 46, x -> x.use(9, 2));
+        full("seeker, an act", x -> x.height(1, 3), 46, x -> x.seeker(1, 5, 1, 3));
+        full("laws", x -> x.height(1, 3), 46, GrownTown::laws);
+        full("build", x -> x.height(1, 3), 46, x -> x.build(0));
+        full("draw", x -> x.height(1, 3), 45, x -> x.draw(0, 0, 0));
+    }
+
     public static void main(String[] args) {
         ofGround();
         ofHeight();
@@ -253,6 +290,7 @@ public final class OrderTest {
         ofSheets();
         ofDrawing();
         ofCells();
+        ofOneThingFull();
         Check.finish("OrderTest");
     }
 }

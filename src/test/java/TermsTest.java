@@ -152,6 +152,37 @@ public final class TermsTest {
         due("57 of 58 again", x.may(63, 1), 1);
     }
 
+    /** Each act does what it is for and nothing else: no tax, cap, leave zones, no zone is a wish, without a law all stays. */
+    private static void eachForItself() {
+        GrownTown x = board(2, 2);
+        Check.laws(x, "tax home 0;leave home 0;tax work 0;leave shop 0;cap shop 64;zone home 0 1 5 5;zone work 1 1 7 7;");
+        for (int u = 1; u < 4; u++) due("may without a zone", x.may(0, u) + x.may(1, u), 2);
+        for (int p = 0; p < 3; p++) x.use(p, 1 + p);
+        for (int p = 0; p < 4; p++) {
+            for (int u = 1; u < 4; u++) {
+                due("worth without a wish", x.worth(p, u), 10);
+                for (int k = 0; k < 7; k++) due("cause of what is no wish", x.cause(p, u, k), 0);
+            }
+        }
+        String[] noZones = {"tax home 0;", "cap home 0;", "leave home 0;", "wish home home 1 0;", "wish home home 1 5;"};
+        for (String law : noZones) {
+            GrownTown y = board(8, 2);
+            Check.laws(y, law);
+            for (int p = 0; p < 16; p++) due("may where no zone is", y.may(p, 2) + y.may(p, 3), 2);
+        }
+        GrownTown y = board(3, 1);
+        Check.laws(y, "wish home work 2-99;zone work 1 0 2 0;leave work 50;tax work 100;");
+        y.seeker(1, 9, 0, 0);
+        y.year();
+        y.use(1, 2);
+        y.use(2, 2);
+        y.year();
+        due("a worth below 0", y.worth(0, 1), -188);
+        due("without a tax", y.went(1, 2), 0);
+        due("and without a leave", y.told(0, 5), 0);
+        due("it stays", y.was(1, 0), 1);
+    }
+
     // ---- seekers
 
     private static void bids() {
@@ -421,6 +452,47 @@ public final class TermsTest {
         }
     }
 
+    /** The first of the years behind which a plot has another use, be there more of them, or be as many used. */
+    private static void firstYear() {
+        for (int from = 0; from < 6; from++) {
+            GrownTown x = board(2, 1);
+            Check.laws(x, "from " + from + " cap home 0;zone home 0 0 0 0;from " + from + " cap work 0;");
+            x.seeker(1, 9, 0, from);
+            x.seeker(2, 8, 0, from);
+            x.seeker(3, 7, 0, from);
+            for (int year = 0; year < 7; year++) x.year();
+            due("a shop beside, from " + from, x.was(6, 1) * 10 + x.was(6, 0), 30);
+            due("without the cap of homes", x.without(0), from);
+            due("one more", x.withoutMore(0), 1);
+            due("without the zone", x.without(1), from);
+            due("without the cap of works: a work in place of a shop", x.without(2), from);
+            due("as many", x.withoutMore(2), 0);
+            due("without more laws", x.without(3), Check.NONE);
+        }
+    }
+
+    /** A ground that is left out is not put when its plot is free again; to put one leaves the height. */
+    private static void groundsAnew() {
+        GrownTown x = board(1, 1);
+        Check.laws(x, "cap home 0;from 2 leave home 99;");
+        x.seeker(1, 9, 0, 0);
+        x.seeker(3, 9, 0, 3);
+        x.year();
+        x.ground(0, 1);
+        for (int year = 1; year < 4; year++) x.year();
+        due("a home in year 0", x.without(0), 0);
+        due("land yet in year 3: a shop", x.withoutMore(0), 1);
+        GrownTown y = board(2, 1);
+        Check.laws(y, "tax home 10;");
+        y.height(1, 5);
+        y.ground(1, 2);
+        y.ground(1, 0);
+        y.seeker(1, 99, 1, 0);
+        y.year();
+        due("the higher plot", y.was(0, 1), 1);
+        due("anew too", y.without(0), Check.NONE);
+    }
+
     // ---- ways
 
     private static void steps() {
@@ -438,6 +510,27 @@ public final class TermsTest {
             x.ground(1, 1);
             due("over water", x.time(0, 2), Check.NONE);
         }
+    }
+
+    /** Times are of the board as it is, however it became so. */
+    private static void changes() {
+        GrownTown x = board(2, 1);
+        due("at first", x.time(0, 1), 3);
+        x.ground(0, 2);
+        x.height(1, 5);
+        due("a ground and a height later", x.time(0, 1), 8);
+        x.height(1, 0);
+        x.ground(1, 2);
+        due("a height and a ground later", x.time(0, 1), 1);
+        x.trip(0, 1);
+        due("a trip", x.trips(0, 0), 1);
+        x.height(0, 9);
+        x.ground(0, 0);
+        due("the trip then", x.trips(0, 0), 12);
+        x.board(2, 1);
+        due("a board anew", x.time(0, 1), 3);
+        x.board(1, 2);
+        due("another board", x.time(0, 1), 3);
     }
 
     private static void rides() {
@@ -476,6 +569,26 @@ public final class TermsTest {
         due("time", x.time(plots[0], last), time);
         for (int i = 0; i < plots.length; i++) due("plot " + i + " of the way", x.way(plots[0], last, i), plots[i]);
         due("no more", x.way(plots[0], last, plots.length), Check.NONE);
+    }
+
+    /** The way is the one whose plots come first from its beginning on, not from its end; and not the shortest one. */
+    private static void comesFirst() {
+        GrownTown x = board(5, 3);
+        x.ground(7, 1);
+        x.height(11, 9);
+        way(x, 24, 10, 5, 0, 1, 2, 3, 8, 13, 12);
+        way(x, 24, 12, 11, 10);
+        x.height(11, 8);
+        way(x, 22, 10, 11, 12);
+        GrownTown y = board(3, 3);
+        way(y, 12, 0, 1, 2, 5, 8);
+        way(y, 12, 8, 5, 2, 1, 0);
+        way(y, 12, 6, 3, 0, 1, 2);
+        way(y, 12, 2, 1, 0, 3, 6);
+        way(y, 6, 4, 1, 0);
+        way(y, 6, 4, 1, 2);
+        way(y, 6, 4, 3, 6);
+        way(y, 6, 4, 5, 8);
     }
 
     /** Ways by trams there and back; what comes first of those that take the same; who is aboard and who is not. */
@@ -517,6 +630,49 @@ public final class TermsTest {
         way(z, 3, 3, 7);
         way(z, 3, 7, 3);
         way(z, 6, 2, 3, 7);
+    }
+
+    /** Trams that go together for a while; one who is aboard and one who is on foot at the same plot go on in other ways. */
+    private static void aboardOrOnFoot() {
+        int[][] together = {{0, 13, 6, 11}, {0, 13, 7, 11}};
+        for (int first = 0; first < 2; first++) {
+            GrownTown x = board(8, 2);
+            GrownTown back = board(8, 2);
+            for (int t = 0; t < 2; t++) {
+                int[] stops = together[(first + t) % 2];
+                x.tram(stops[0], stops[1]);
+                back.tram(stops[3], stops[2]);
+                for (int i = 2; i < 4; i++) {
+                    x.stop(t, stops[i]);
+                    back.stop(t, stops[3 - i]);
+                }
+            }
+            way(x, 5, 0, 13, 6, 11);
+            way(back, 5, 0, 13, 6, 11);
+        }
+        GrownTown y = board(8, 2);
+        for (int road : new int[] {2, 3, 4, 5}) y.ground(road, 2);
+        y.height(9, 9);
+        y.tram(6, 1);
+        y.stop(0, 7);
+        y.stop(0, 3);
+        way(y, 4, 1, 2, 3);
+        way(y, 5, 6, 1, 7, 3);
+        GrownTown z = board(8, 2);
+        z.tram(0, 13);
+        z.stop(0, 7);
+        z.stop(0, 11);
+        z.tram(13, 6);
+        z.stop(1, 11);
+        way(z, 5, 0, 13, 7, 11);
+        way(z, 4, 13, 6, 11);
+        y.tram(15, 14);
+        for (int p : new int[] {13, 12, 3}) y.stop(1, p);
+        way(y, 5, 6, 1, 7, 3);
+        y.tram(9, 1);
+        y.stop(2, 7);
+        y.stop(2, 3);
+        way(y, 5, 9, 1, 7, 3);
     }
 
     /** A step is crowded by 2 for each other trip, either way; a trip goes otherwise for less alone. */
@@ -635,6 +791,7 @@ public final class TermsTest {
         worth();
         zones();
         caps();
+        eachForItself();
         bids();
         settling();
         untilNoneAsks();
@@ -646,9 +803,14 @@ public final class TermsTest {
         leaving();
         grownAnew();
         actsAnew();
+        firstYear();
+        groundsAnew();
         steps();
+        changes();
         rides();
+        comesFirst();
         waysByTram();
+        aboardOrOnFoot();
         crowds();
         noPlotTwice();
         whatIsChosen();
